@@ -11,6 +11,8 @@ public final class MailStore {
     private static final int MAX_KEY = 40;
     private static final int MAX_FILES = 40;
     private static final int LINE_FEED = 10;
+    /** More than a file can have messages: a PLACE is told as its shelf times this and its message. */
+    private static final int SHELF_ROOM = 1024;
 
     private static final int OTHER = 0;
     private static final int MESSAGE = 1;
@@ -119,7 +121,11 @@ public final class MailStore {
         int known = archive.mails.size();
         archive.beginScan();
         archive.judgeShelves(disk);
-        int messages = archive.fillShelves(disk);
+        int messages = 0;
+        for (int i = 0; i < disk.files.size(); i++) {
+            messages += archive.visit(disk.files.get(i));
+        }
+        archive.changeShelves();
         archive.tellOfMails(known);
         return messages;
     }
@@ -162,15 +168,15 @@ public final class MailStore {
             case 1:
                 return m.letter.text.get(k);
             case 2:
-                Shelf shelf = archive.shelfOfPlace(mail, i);
-                return shelf == null ? NONE : shelf.stored.title.text.get(k);
+                return archive.titleByte(mail, i, k);
             default:
                 return NONE;
         }
     }
 
     public int place(int mail, int i) {
-        return archive.messageOfPlace(mail, i);
+        int spot = archive.spotOf(mail, i);
+        return spot == NONE ? NONE : spot % SHELF_ROOM;
     }
 
     public int count(int what) {
@@ -600,29 +606,12 @@ public final class MailStore {
         }
 
         boolean holds(int number) {
-            return placesOf(number) > 0;
-        }
-
-        int placesOf(int number) {
-            int places = 0;
-            for (int k = 0; k < numbers.length; k++) {
-                places += numbers[k] == number ? 1 : 0;
-            }
-            return places;
-        }
-
-        /** Which message here is the i-th of a MAIL, or NONE. */
-        int messageOf(int number, int i) {
-            int left = i;
             for (int k = 0; k < numbers.length; k++) {
                 if (numbers[k] == number) {
-                    if (left == 0) {
-                        return k;
-                    }
-                    left--;
+                    return true;
                 }
             }
-            return NONE;
+            return false;
         }
     }
 
@@ -647,30 +636,26 @@ public final class MailStore {
             return flags;
         }
 
-        Shelf shelfOfPlace(int number, int i) {
+        /** Where the i-th PLACE of a MAIL is, or NONE. */
+        int spotOf(int number, int i) {
             int left = i;
             for (int s = 0; s < shelves.size() && left >= 0; s++) {
-                Shelf shelf = shelves.get(s);
-                int here = shelf.placesOf(number);
-                if (left < here) {
-                    return shelf;
+                int[] numbers = shelves.get(s).numbers;
+                for (int k = 0; k < numbers.length; k++) {
+                    left -= numbers[k] == number ? 1 : 0;
+                    if (left < 0) {
+                        return s * SHELF_ROOM + k;
+                    }
                 }
-                left -= here;
-            }
-            return null;
-        }
-
-        int messageOfPlace(int number, int i) {
-            int left = i;
-            for (int s = 0; s < shelves.size() && left >= 0; s++) {
-                Shelf shelf = shelves.get(s);
-                int here = shelf.placesOf(number);
-                if (left < here) {
-                    return shelf.messageOf(number, left);
-                }
-                left -= here;
             }
             return NONE;
+        }
+
+        /** Byte k of the NAME of a MAIL's i-th PLACE, or NONE. */
+        int titleByte(int number, int i, int k) {
+            int spot = spotOf(number, i);
+            int s = spot == NONE ? NONE : spot / SHELF_ROOM;
+            return s >= 0 && s < shelves.size() ? shelves.get(s).stored.title.text.get(k) : NONE;
         }
 
         int mailsWithPlace() {
@@ -742,27 +727,43 @@ public final class MailStore {
             }
         }
 
-        /** Step 3 of a SCAN: answers how many messages were read. */
-        int fillShelves(Disk disk) {
-            int messages = 0;
-            for (int f = 0; f < disk.files.size(); f++) {
-                StoredFile stored = disk.files.get(f);
-                if (stored.title.sort == OTHER) {
-                    continue;
-                }
-                Shelf shelf = shelfOf(stored.title);
-                if (shelf == null || shelf.fate != SAME) {
-                    tell(NEW, shelf == null);
-                    shelf = readFile(stored, shelf);
-                    messages += shelf.numbers.length;
-                }
-                nextShelves.add(shelf);
+        /** Step 3 of a SCAN for one file, by NAMES: answers how many messages were read there. */
+        int visit(StoredFile stored) {
+            if (stored.title.sort == OTHER) {
+                return 0;
             }
+            Shelf old = shelfOf(stored.title);
+            if (old != null && old.fate == SAME) {
+                nextShelves.add(old);
+                return 0;
+            }
+            tell(NEW, old == null);
+            Shelf shelf = new Shelf(stored, Cutter.messagesIn(stored));
+            nextShelves.add(shelf);
+            int start = Cutter.firstIn(stored);
+            for (int k = 0; k < shelf.numbers.length; k++) {
+                start = cutter.cut(stored, start);
+                shelf.numbers[k] = recognise();
+                givePlace(shelf.numbers[k], old);
+            }
+            return shelf.numbers.length;
+        }
+
+        /** One more PLACE, in a file which was old at the last SCAN (null: was not there). */
+        private void givePlace(int number, Shelf old) {
+            Mail m = mailOf(number);
+            if (m != null) {
+                m.places++;
+                m.keptName = m.keptName || old != null && old.holds(number);
+            }
+        }
+
+        /** From now on the files are as this SCAN saw them. */
+        void changeShelves() {
             ArrayList<Shelf> old = shelves;
             shelves = nextShelves;
             nextShelves = old;
             nextShelves.clear();
-            return messages;
         }
 
         private Shelf shelfOf(Title title) {
@@ -772,23 +773,6 @@ public final class MailStore {
                 }
             }
             return null;
-        }
-
-        /** Reads a file; old is what it was at the last SCAN, or null. */
-        private Shelf readFile(StoredFile stored, Shelf old) {
-            Shelf shelf = new Shelf(stored, Cutter.messagesIn(stored));
-            int start = Cutter.firstIn(stored);
-            for (int k = 0; k < shelf.numbers.length; k++) {
-                start = cutter.cut(stored, start);
-                int number = recognise();
-                shelf.numbers[k] = number;
-                Mail m = mailOf(number);
-                if (m != null) {
-                    m.places++;
-                    m.keptName = m.keptName || old != null && old.holds(number);
-                }
-            }
-            return shelf;
         }
 
         /** The number of the MAIL that the message in the cutter is. */

@@ -610,6 +610,18 @@ public final class MailStorePromises {
         t.put("cur/b", k + "8", 0);
         t.x.scan();
         t.due("the least without a place", t.x.mail(1, 5), 1);
+        t.gone("cur/b");
+        t.x.scan();
+        t.put("cur/e", "Message-ID: <j>\n\n8", 0);
+        t.put("cur/f", "Message-ID: <kk>\n\n8", 0);
+        t.x.scan();
+        t.due("another key, and one that it begins", t.told(), "0 0 2 1 2 0 0 0 0");
+        t.gone("cur/e");
+        t.gone("cur/f");
+        t.x.scan();
+        t.put("cur/b", k + "8", 0);
+        t.x.scan();
+        t.due("found as it was", t.told(), "0 0 1 1 0 0 0 0 1");
         t.put("cur/b", "no key", 0);
         t.x.scan();
         t.due("never without a key", t.told(), "0 1 0 1 1 0 0 1 0");
