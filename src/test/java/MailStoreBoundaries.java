@@ -317,6 +317,11 @@ public final class MailStoreBoundaries {
             "Message-ID: a\nMessage-ID: <b>", "", "Message-ID:\n <a>", "", "Message-ID:", "", "Message-ID", "", "", "",
             "Message-ID <a>", "", " Message-ID: <a>", "", "X-Message-ID: <a>", "", "Message-ID : <a>", "", "Message_ID:<a>", "",
             "X: Message-ID: <a>", "", "Message-ID2: <a>", "");
+        String field = "Message-ID:";
+        for (int i = 0; i < field.length(); i++) {
+            char next = (char) (field.charAt(i) + 1);
+            keysAre(t, field.substring(0, i) + next + field.substring(i + 1) + "<a>", "");
+        }
         keysAre(t, "x".repeat(385) + "\nMessage-ID:<a>", "a", "x".repeat(386) + "\nMessage-ID:<a", "");
         t = new Desk("(great or small letters)");
         keysAre(t, "message-id:<a>", "a", "MESSAGE-ID:<a>", "a", "mEsSaGe-iD:<A>", "A", "MESSAGE-ID:<a>\nMessage-ID:<b>", "a",
